@@ -984,8 +984,12 @@ public final class ArcKeeper {
             for (int variable = 0; variable < VARIABLES; variable++) {
                 f.lasts.set(variable, -1);
             }
-            for (int line = 0; line < f.size; line = f.lastOfPart(line) + 1) {
-                weighPart(f, line, f.lastOfPart(line));
+            int next = 0;
+            for (int line = 0; line < f.size; line++) {
+                if (line == next) {
+                    weighPart(f, line, f.lastOfPart(line));
+                    next = f.lastOfPart(line) + 1;
+                }
             }
             for (int line = 0; line < f.size; line++) {
                 if (f.kindAt(line) == 'd') {
@@ -1037,12 +1041,12 @@ public final class ArcKeeper {
         }
 
         private void findMoves(Function f) {
+            int next = 0;
             for (int line = 0; line < f.size; line++) {
-                f.moving.set(line, 0);
-            }
-            for (int line = 0; line < f.size; line = f.lastOfPart(line) + 1) {
-                if (isMoving(f, line)) {
-                    f.moving.set(line, 1);
+                boolean isOutside = line == next;
+                f.moving.set(line, isOutside && isMoving(f, line) ? 1 : 0);
+                if (isOutside) {
+                    next = f.lastOfPart(line) + 1;
                 }
             }
         }
