@@ -949,7 +949,7 @@ public final class ArcKeeper {
                 f.ends.set(start, line);
                 f.starts.set(line, start);
             }
-            if (kind != 'j' && isStart(kind)) {
+            if (isStart(kind)) {
                 open.set(openCount, line);
                 openCount++;
             }

@@ -178,6 +178,7 @@ public final class DeclaringTest {
         Tries.dueThrow("11 conforms by its parent only", MISSING, () -> x.witnessOf(1, 0));
         Tries.due("9 none before", x.setDefault(0, 3), false);
         Tries.due("9 one before", x.setDefault(0, 0), true);
+        Tries.due("9 the function 0 before", x.setDefault(0, 0), true);
         Tries.due("11 default", x.witnessOf(1, 0), 0);
         x.conform(1, 0, 1);
         Tries.due("11 the condition does not hold", x.witnessOf(1, 0), 0);
@@ -185,7 +186,8 @@ public final class DeclaringTest {
         Tries.due("11 it holds", x.witnessOf(1, 0), 2);
         Tries.due("11 from further down", x.witnessOf(3, 0), 2);
         Tries.due("11 above it", x.witnessOf(0, 0), 0);
-        x.setWitness(2, 0, 3);
+        Tries.due("8 none there", x.setWitness(2, 0, 0), false);
+        Tries.due("8 the function 0 before", x.setWitness(2, 0, 3), true);
         Tries.due("11 a nearer one that was not told", x.witnessOf(3, 0), 2);
         x.conform(2, 0, -1);
         Tries.due("11 the nearest one", x.witnessOf(3, 0), 3);

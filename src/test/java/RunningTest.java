@@ -505,6 +505,7 @@ public final class RunningTest {
 
     private static void waitingAtTheEnd() {
         Tries.due("z the return is in the next step", run(-1, false, "z"), "d -10000 in 2");
+        Tries.due("z behind parts", run(0, false, "v 0; v 0; j; j; z"), "d -10000 in 6");
         Tries.due("z in a call", run(-1, false, "k 1 1 0", "k 1 2 0", "z"), "d -10000 in 4");
         ArcKeeper x = world("n 1 1; k 1 1 1; p 1", "z");
         x.begin(0, -1, false);
