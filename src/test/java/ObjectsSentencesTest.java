@@ -402,4 +402,47 @@ public final class ObjectsSentencesTest {
             }
         }
     }
+
+    @Says(promise = 43, words = {"each object that is alive has a count greater than 0, which is the number of its owners;",
+        "no field that is strong holds one that is not alive;"})
+    static void promise43CountsThatAreNotTheOwners() {
+        ArcKeeper x = Worlds.begun(1, 7, "m 1 0; m 2 0; f 0 0 1; f 0 1 2; f 0 2 2; f 0 3 2; - 2; z");
+        Tries.due("as it is", x.isSound(), true);
+        for (int object = 0; object < 3; object++) {
+            for (int by = -1; by <= 1; by += 2) {
+                int count = x.countOf(object);
+                if (!Inside.set(x, "counts", object, count + by)) {
+                    return;
+                }
+                if (count + by > 0) {
+                    Tries.due("a count of " + object + " that is wrong", x.isSound(), false);
+                }
+                Inside.set(x, "counts", object, count);
+                Tries.due("and right again", x.isSound(), true);
+            }
+        }
+        Inside.set(x, "counts", 2, 0);
+        Tries.due("a strong field holds one that is not alive", x.isSound(), false);
+        ArcKeeper y = Worlds.begun(1, 4, "m 2 0; f 0 1 2; f 0 2 2; - 2; z");
+        Tries.due("fields that are not strong do", y.isSound() + " " + y.isAlive(1), "true false");
+    }
+
+    @Says(promise = 43, words = {"and each actor is occupied by at most one task, which is not done, ended or trapped, "
+        + "or was trapped in it."})
+    static void promise43TasksThatHaveEnded() {
+        ArcKeeper x = Worlds.world("n 1 1", "h 1", "v 1; j", "v 0; v 1; j; j");
+        for (int task = 0; task < 4; task++) {
+            x.begin(task, 0, false);
+            x.step(task, task < 3 ? 1 : 2);
+        }
+        Tries.due("one was trapped in it", x.isSound() + " " + x.occupiedBy(3) + " " + x.state(3), "true 3 t");
+        for (int task = 0; task < 3; task++) {
+            if (!Inside.set(x, "occupants", task, task)) {
+                return;
+            }
+            Tries.due("one that is " + x.state(task), x.isSound(), false);
+            Inside.set(x, "occupants", task, -1);
+            Tries.due("none", x.isSound(), true);
+        }
+    }
 }

@@ -333,7 +333,7 @@ public final class TasksSentencesTest {
         return way.append(Worlds.told(x, 0)).toString();
     }
 
-    @Says(promise = 24, words = {"Returns the line", "the next one to be done, or that of its trap."})
+    @Says(promise = 24, words = {"Returns the line.", "the next one to be done, or that of its trap."})
     static void promise24Line() {
         Tries.due("lines", way(-1, "n 1 1; n 2 2; r 1"), "0 1 2 d 1");
         Tries.due("a loop", way(-1, "l 2; n 1 1; j; z"), "0 1 2 1 2 3 4 d -10000");
