@@ -654,6 +654,7 @@ public final class FunctionsSentencesTest {
         for (String part : new String[] {"? 0", "l 1", "e 0 0", "v 0"}) {
             Tries.due("in a part " + part, moves(true, part + "; r 1; j; r 1"), "0001");
         }
+        Tries.due("in a part, behind other lines", moves(true, "? 0; n 1 1; n 2 2; r 1; n 3 3; r 2; j; r 1"), "00000001");
         Tries.due("in a part that is tried", moves(true, "y 0; r 1; o; r 1; j; r 1"), "000001");
         Tries.due("a part put off ahead", moves(true, "d; j; r 1"), "000");
         Tries.due("a part put off behind", moves(true, "r 1; d; j"), "000");

@@ -266,5 +266,12 @@ public final class LinesSentencesTest {
         Tries.due("up to what is not met", Worlds.ended(x, 0), "t p at 9 in 15");
         Tries.due("by default, by the kind itself, with its parameter", Tries.printed(x), "1 2 10001");
         Tries.due("the object is the parameter that is owned", Worlds.counts(x), "2 3");
+        ArcKeeper z = Worlds.world();
+        z.addRequirement(0);
+        Worlds.addAll(z, "k 2 1 0; p 2", "n 1 1; p 1; r 1", "n 1 2; p 1; r 1");
+        z.conform(0, 0, -1);
+        z.setDefault(1, 2);
+        z.begin(0, 0, false);
+        Tries.due("a k of the number of a requirement", Worlds.ended(z, 0) + " " + Tries.printed(z), "d -10000 in 5 1 1");
     }
 }

@@ -421,8 +421,12 @@ public final class ObjectsSentencesTest {
                 Tries.due("and right again", x.isSound(), true);
             }
         }
-        Inside.set(x, "counts", 2, 0);
-        Tries.due("a strong field holds one that is not alive", x.isSound(), false);
+        for (int object = 1; object < 3; object++) {
+            int count = x.countOf(object);
+            Inside.set(x, "counts", object, 0);
+            Tries.due("a strong field holds one that is not alive", x.isSound(), false);
+            Inside.set(x, "counts", object, count);
+        }
         ArcKeeper y = Worlds.begun(1, 4, "m 2 0; f 0 1 2; f 0 2 2; - 2; z");
         Tries.due("fields that are not strong do", y.isSound() + " " + y.isAlive(1), "true false");
     }
@@ -444,5 +448,28 @@ public final class ObjectsSentencesTest {
             Inside.set(x, "occupants", task, -1);
             Tries.due("none", x.isSound(), true);
         }
+    }
+
+    @Says(promise = 36, words = {"Returns what was printed.", "`index`: the index, from 0"})
+    static void promise36ManyPrints() {
+        ArcKeeper x = Worlds.world("n 1 0; n 2 1; l 5; l 5; l 5; l 5; p 1; + 1 1 2; j; j; j; j");
+        x.begin(0, -1, false);
+        Worlds.ended(x, 0);
+        Tries.due("prints", x.prints(), 625);
+        Tries.dueRange("index", 0, 624, n -> n, Tries.INDEX, x::printAt);
+    }
+
+    @Says(promise = 38, words = {"Returns a code of a death, in the order in which they were noted."})
+    static void promise38ManyDeaths() {
+        ArcKeeper x = new ArcKeeper();
+        for (int kind = 0; kind < 8; kind++) {
+            x.addKind(kind - 1, false);
+            x.setCode(kind, kind);
+        }
+        Tries.function(x, false, "l 5; l 5; l 5; m 1 7; j; j; j; l 4; l 5; m 1 7; j; j; - 1");
+        x.begin(0, -1, false);
+        Worlds.ended(x, 0);
+        Tries.due("deaths", x.deaths(), 145 * 8);
+        Tries.dueRange("index", 0, 145 * 8 - 1, n -> 7 - n % 8, Tries.INDEX, x::deathAt);
     }
 }

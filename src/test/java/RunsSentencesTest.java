@@ -442,6 +442,65 @@ public final class RunsSentencesTest {
         Tries.due("not if one is weak", w.alive() + " " + Tries.died(w), "0 11 10 11 10");
     }
 
+    @Says(promise = 0, words = "then its fields are given up, those of its kind by rising numbers, then those of its parent,")
+    static void deathsGiveUpTwelveFields() {
+        ArcKeeper x = new ArcKeeper();
+        x.addKind(-1, false);
+        x.addKind(-1, false);
+        for (int field = 0; field < 12; field++) {
+            x.addField(field < 6 ? 0 : 1, 's');
+        }
+        x.addKind(0, false);
+        x.addKind(2, false);
+        for (int kind = 0; kind < 4; kind++) {
+            x.setCode(kind, kind + 1);
+        }
+        Tries.function(x, false, "m 1 3; m 2 1; f 1 0 2; m 2 0; f 1 5 2; m 2 2; f 1 3 2; m 3 1; f 2 2 3; - 2; - 3; - 1");
+        x.begin(0, -1, false);
+        x.step(0, 12);
+        Tries.due("of a kind that was added behind its fields", Tries.died(x) + " " + x.alive(), "4 3 1 2 3 1 2 1 0");
+        ArcKeeper y = new ArcKeeper();
+        y.addKind(-1, false);
+        y.addKind(-1, false);
+        y.addKind(0, false);
+        StringBuilder text = new StringBuilder("m 1 0");
+        for (int field = 0; field < 12; field++) {
+            y.addField(0, 's');
+        }
+        for (int field = 11; field >= 2; field--) {
+            text.append("; m 2 1; f 1 ").append(field).append(" 2");
+        }
+        y.setCode(0, 10);
+        y.setCode(1, 11);
+        Tries.function(y, false, text + "; - 2; - 1");
+        y.begin(0, -1, false);
+        y.step(0, 22);
+        Tries.due("none yet", y.deaths() + " " + y.alive(), "0 11");
+        y.step(0, 1);
+        Tries.due("twelve fields", Tries.died(y) + " " + y.alive(), "10 11 11 11 11 11 11 11 11 11 11 0");
+    }
+
+    @Says(promise = 0, words = "where what dies by that is done at once.")
+    static void deathsOfHundredFifty() {
+        ArcKeeper x = Worlds.world("l 5; l 5; l 5; m 1 0; f 1 0 2; c 2 1; j; j; j; l 5; l 5; m 1 0; f 1 0 2; c 2 1; j; j; - 1; z; - 2; z");
+        x.begin(0, -1, false);
+        while (x.at(0) < 18) {
+            x.step(0, 1);
+        }
+        Tries.due("a chain", x.alive() + " " + Worlds.owned(x, 149) + " " + Worlds.owned(x, 0), "150 1 1 1 1");
+        x.step(0, 1);
+        Tries.due("dies at once", x.alive() + " " + x.deaths() + " " + x.isSound(), "0 150 true");
+        Tries.due("its codes", Tries.died(x), "10" + " 10".repeat(149));
+        ArcKeeper y = new ArcKeeper();
+        y.addKind(-1, false);
+        for (int field = 0; field < 12; field++) {
+            y.addField(0, 's');
+        }
+        Tries.function(y, false, "l 5; l 5; l 5; m 1 0; j; j; j; l 5; l 5; m 1 0; j; j; n 2 7; f 1 11 2; g 3 1 11; p 3; c 4 1; e 1 11; g 5 1 10; f 4 11 2; j");
+        y.begin(0, -1, false);
+        Tries.due("the last field of the last object", Worlds.ended(y, 0).substring(0, 9) + " " + Tries.printed(y) + " " + y.accesses(), "t x at 19 7 1");
+    }
+
     // ---- actors
 
     @Says(promise = 0, words = {"'v' w, during the part up to its end, the task is in the actor w;",
@@ -553,5 +612,113 @@ public final class RunsSentencesTest {
             Inside.set(x, "occupants", object, -1);
         }
         Tries.due("all are entered", x.step(0, 1) + " " + Worlds.told(x, 0) + " " + x.occupiedBy(0) + " " + x.occupiedBy(2), "1 r at 5 0 0");
+    }
+
+    // ---- the most of each
+
+    @Says(promise = 0, words = "all other ends go on.")
+    static void runsTwelvePartsWithinEachOther() {
+        String ends = "j" + "; j".repeat(11);
+        Tries.due("loops", Worlds.run(-1, "l 1; ".repeat(12) + ends), "d -10000 in 24");
+        Tries.due("done if", Worlds.run(0, "? 0; ".repeat(12) + ends), "d -10000 in 24");
+        Tries.due("an error from the innermost one", Worlds.run(0, "y 1; " + "? 0; ".repeat(10) + "h 4; " + "j; ".repeat(10) + "o; j"),
+                "d -10000 in 13");
+        ArcKeeper x = Worlds.begun(0, 12, "v 0; ".repeat(12) + ends);
+        for (int left = 12; left > 0; left--) {
+            Tries.due("in the actor", x.occupiedBy(0) + " " + x.isSound(), "0 true");
+            x.step(0, 1);
+        }
+        Tries.due("not in it", Worlds.told(x, 0) + " " + Tries.outcome(() -> x.occupiedBy(0)), "d -10000 NoSuchElementException");
+        ArcKeeper y = new ArcKeeper();
+        y.addKind(-1, false);
+        StringBuilder text = new StringBuilder();
+        for (int field = 0; field < 11; field++) {
+            y.addField(0, 's');
+            text.append("e 0 ").append(field).append("; ");
+        }
+        Tries.function(y, false, text + "n 1 1" + "; j".repeat(11));
+        y.begin(0, 0, false);
+        for (int step = 1; step <= 11; step++) {
+            y.step(0, 1);
+            Tries.due("accesses", y.accesses(), step);
+        }
+        y.step(0, 1);
+        for (int left = 10; left >= 0; left--) {
+            y.step(0, 1);
+            Tries.due("accesses that are left", y.accesses(), left);
+        }
+    }
+
+    @Says(promise = 0, words = {"A part is put off when its 'd' is done, and as often.", "the latest one first, line by line, without their 'j',"})
+    static void runsManyPartsThatArePutOff() {
+        ArcKeeper x = Worlds.world("n 1 0; n 2 1; l 5; l 5; l 5; d; p 1; + 1 1 2; j; j; j; j");
+        x.begin(0, -1, false);
+        Tries.due("steps", Worlds.ended(x, 0), "d -10000 in 313");
+        Tries.due("as often", x.prints(), 125);
+        for (int index = 0; index < 125; index++) {
+            Tries.due("one behind the other", x.printAt(index), index);
+        }
+    }
+
+    @Says(promise = 0, words = {"'o', the part up to the end of this is done if an error was thrown in the part that was tried,"})
+    static void runsHandlersThatAreNotDone() {
+        Tries.due("no error", Worlds.prints(-1, "n 1 1; y 2; p 1; o; n 1 5; p 1; j; p 1"), "1 1");
+        Tries.due("in a loop", Worlds.prints(-1, "n 1 1; l 3; y 2; p 1; o; p 2; j; j; p 1"), "1 1 1 1");
+        Tries.due("beside parts that are put off", Worlds.prints(-1, "n 1 1; n 3 3; d; p 3; j; y 2; p 1; o; p 3; j"), "1 3");
+    }
+
+    @Says(promise = 0, words = "A line that is trapped has done nothing.")
+    static void trapsInPartsThatArePutOff() {
+        ArcKeeper x = Worlds.begun(0, 5, "e 0 0; k 2 1 0; n 1 1; j", "m 1 2; d; f 0 0 1; g 3 0 0; j; n 2 2; n 2 2");
+        Tries.due("ahead of the return", Worlds.told(x, 0) + " " + Worlds.owned(x, 1), "r at 6 1 1");
+        x.step(0, 1);
+        Tries.due("f", Worlds.told(x, 0) + " " + Worlds.owned(x, 1) + " " + Worlds.counts(x) + " " + x.depth(0), "t x at 2 1 1 0 0 2");
+        ArcKeeper y = Worlds.world("l 5; l 5; l 5; m 1 2; j; j; j; l 5; l 5; m 1 2; j; j; d; m 1 0; j; n 2 2; z; m 1 2; n 2 2");
+        y.begin(0, -1, false);
+        Tries.due("m is trapped", Worlds.ended(y, 0).substring(0, 9), "t m at 17");
+        ArcKeeper z = Worlds.world("l 5; l 5; l 5; m 1 2; j; j; j; l 5; l 5; m 1 2; j; j; d; m 1 0; j; n 2 2");
+        z.begin(0, -1, false);
+        Tries.due("m in a part that is put off", Worlds.ended(z, 0).substring(0, 9), "t m at 13");
+        Tries.due("nothing was made", z.made() + " " + z.alive() + " " + Worlds.owned(z, 149), "150 1 1 1");
+        ArcKeeper w = Worlds.begun(0, 2, "d; c 1 0; + 2 3 3; c 1 0; j; n 1 1; n 1 1");
+        w.step(0, 1);
+        Tries.due("the lines ahead of it are done, those behind it are not", Worlds.told(w, 0) + " " + Worlds.counts(w), "t t at 2 1 0");
+    }
+
+    @Says(promise = 0, words = "A 'z' leaves all actors; in the next step, if no other task is in one of them, "
+        + "the task enters all of them again,")
+    static void actorsAreTheOnlyPartsThatAreLeft() {
+        String make = "m 1 0; m 2 0; m 3 0; m 4 0; ";
+        ArcKeeper x = Worlds.begun(0, 9, make + "l 3; ? 0; e 0 0; y 5; z; n 5 5; z; o; j; j; j; j");
+        for (int step = 0; step < 12; step++) {
+            for (int object = 0; object < 5; object++) {
+                int asked = object;
+                Tries.dueThrow("no actor was entered", Tries.MISSING, () -> x.occupiedBy(asked));
+            }
+            Tries.due("the access goes on", x.accesses() > 0 || x.at(0) < 7 || x.at(0) > 13, true);
+            x.step(0, 1);
+        }
+        ArcKeeper y = Worlds.begun(0, 6, "v 0; v 0; ? 0; y 5; l 1; z; n 1 1; j; o; j; j; j; n 1 1; j; n 1 1");
+        y.step(0, 5);
+        Tries.due("the inner one is left, with all parts in it", y.at(0) + " " + y.occupiedBy(0) + " " + y.isSound(), "12 0 true");
+        y.step(0, 2);
+        Tries.dueThrow("the outer one is left", Tries.MISSING, () -> y.occupiedBy(0));
+        ArcKeeper z = Worlds.begun(0, 3, "e 0 0; j; z");
+        z.step(0, 1);
+        Tries.due("a z behind an access", Worlds.told(z, 0) + " " + z.accesses(), "d -10000 0");
+        ArcKeeper w = Worlds.begun(0, 5, "v 0; k 1 1 0; n 1 1; j", "v 0; j; z");
+        w.step(0, 1);
+        Tries.due("a z behind an actor, in a call", Worlds.told(w, 0) + " " + w.occupiedBy(0), "r at 2 0");
+    }
+
+    @Says(promise = 0, words = "enters the actor if no other task is in it,")
+    static void actorsOfTheFirstTask() {
+        ArcKeeper x = Worlds.world("v 0; j");
+        x.begin(0, 0, false);
+        x.begin(0, 0, false);
+        Tries.due("as it begins", Worlds.told(x, 1), "r at 0");
+        if (Inside.set(x, "occupants", 1, 0)) {
+            Tries.due("the task 0 is in it", x.step(1, 3) + " " + Worlds.told(x, 1) + " " + x.occupiedBy(1), "3 w at 0 0");
+        }
     }
 }

@@ -13,6 +13,7 @@ final class Tries {
     static final Class<java.util.NoSuchElementException> MISSING = java.util.NoSuchElementException.class;
     static final Class<ArithmeticException> ARITHMETIC = ArithmeticException.class;
 
+    private static final int MOST_TOLD = 50;
     private static int failures = 0;
     private static int tries = 0;
     private static String test = "";
@@ -56,6 +57,8 @@ final class Tries {
         tries++;
         if (!want.equals(got)) {
             failures++;
+        }
+        if (!want.equals(got) && failures <= MOST_TOLD) {
             System.out.println(test + what + ": answered " + got + ", due is " + want);
         }
     }

@@ -55,7 +55,7 @@ final class Worlds {
     /** Lets a task go to its end, and tells how it ended and in how many steps. */
     static String ended(ArcKeeper x, int task) {
         int steps = 0;
-        while (x.state(task) == 'r' && steps < 1000) {
+        while (x.state(task) == 'r' && steps < 10000) {
             steps += x.step(task, 100);
         }
         return told(x, task) + " in " + steps;
