@@ -540,14 +540,11 @@ public final class ArcKeeper {
         }
     }
 
+    /** A task that is done or ended with an error has left all its parts, so that it is in no actor. */
     private boolean isOccupiedSoundly(int object) {
         int occupant = heap.occupants.get(object);
         for (int i = 0; i < taskCount; i++) {
-            Task t = taskAt(i);
-            if (t.isIn(object) != (occupant == i)) {
-                return false;
-            }
-            if (occupant == i && (t.condition == 'd' || t.condition == 'e')) {
+            if (taskAt(i).isIn(object) != (occupant == i)) {
                 return false;
             }
         }
