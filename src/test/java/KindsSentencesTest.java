@@ -159,6 +159,16 @@ public final class KindsSentencesTest {
         }
     }
 
+    @Says(promise = 2, words = "`isActor`: whether its objects are actors")
+    static void promise02IsActorSevenKindsUp() {
+        ArcKeeper x = new ArcKeeper();
+        for (int kind = 0; kind < 8; kind++) {
+            x.addKind(kind - 1, kind == 0);
+        }
+        Tries.function(x, false, "v 0; j");
+        Tries.due("by its highest parent", Worlds.ended(x, x.begin(0, 7, false)), "d -10000 in 2");
+    }
+
     @Says(promise = 2, words = "Returns its number.")
     static void promise02Number() {
         ArcKeeper x = new ArcKeeper();

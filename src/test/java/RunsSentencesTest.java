@@ -477,7 +477,23 @@ public final class RunsSentencesTest {
         y.step(0, 22);
         Tries.due("none yet", y.deaths() + " " + y.alive(), "0 11");
         y.step(0, 1);
-        Tries.due("twelve fields", Tries.died(y) + " " + y.alive(), "10 11 11 11 11 11 11 11 11 11 11 0");
+        Tries.due("ten of twelve fields", Tries.died(y) + " " + y.alive(), "10 11 11 11 11 11 11 11 11 11 11 0");
+        ArcKeeper z = new ArcKeeper();
+        for (int kind = 0; kind < 8; kind++) {
+            z.addKind(kind - 1, false);
+        }
+        for (int field = 0; field < 12; field++) {
+            z.addField(0, 's');
+        }
+        Tries.function(z, false, "m 1 0; m 2 6; f 1 11 2; m 2 6; f 1 0 2; - 2; - 1");
+        Tries.function(z, false, "m 1 7; m 2 6; f 1 11 2; m 2 6; f 1 0 2; - 2; - 1");
+        for (int task = 0; task < 2; task++) {
+            z.begin(task, -1, false);
+            z.step(task, 6);
+            Tries.due("none yet", z.alive(), 3);
+            z.step(task, 1);
+            Tries.due("the first and the last field, of eight kinds", z.alive() + " " + z.deaths(), "0 " + (task == 0 ? 15 : 15 + 22));
+        }
     }
 
     @Says(promise = 0, words = "where what dies by that is done at once.")
@@ -629,6 +645,11 @@ public final class RunsSentencesTest {
             x.step(0, 1);
         }
         Tries.due("not in it", Worlds.told(x, 0) + " " + Tries.outcome(() -> x.occupiedBy(0)), "d -10000 NoSuchElementException");
+        ArcKeeper z = Worlds.begun(0, 22, "? 0; " + "v 0; ".repeat(11) + ends);
+        Tries.due("in the outermost actor", z.occupiedBy(0), 0);
+        z.step(0, 1);
+        Tries.due("not in it, but in a part", z.at(0) + " " + Tries.outcome(() -> z.occupiedBy(0)), "23 NoSuchElementException");
+        Tries.due("loops within nine parts", Worlds.prints(0, "? 0; ".repeat(9) + "l 2; l 1; p 0; " + "j; ".repeat(11).trim()), "10000 10000");
         ArcKeeper y = new ArcKeeper();
         y.addKind(-1, false);
         StringBuilder text = new StringBuilder();
